@@ -12,18 +12,10 @@ final class CheckTest {
         DUE.end();
     }
 
-    private static RegisterHouse house(int values) {
-        RegisterHouse house = new RegisterHouse();
-        for (int v = 0; v < values; v++) {
-            house.value(0);
-        }
-        return house;
-    }
-
     private static void fine() {
-        RegisterHouse house = house(0);
+        RegisterHouse house = Houses.of("");
         DUE.is("nothing", house.check(), 1);
-        house = house(3);
+        house = Houses.of("000");
         DUE.is("no steps", house.check(), 1);
         counting(house, 10);
         for (int many = 0; many <= 8; many++) {
@@ -42,7 +34,7 @@ final class CheckTest {
     }
 
     private static void latestStays() {
-        RegisterHouse house = house(3);
+        RegisterHouse house = Houses.of("000");
         house.memory(4, 44);
         counting(house, 7);
         DUE.is("check without a run", house.check(), 1);
@@ -61,7 +53,7 @@ final class CheckTest {
 
     /** Steps that do not end with 300 granted are not asked for what they say. */
     private static void endless() {
-        RegisterHouse house = house(3);
+        RegisterHouse house = Houses.of("000");
         house.put(9, 0, 0, 0);
         house.put(8, 0, 0, 0);
         DUE.is("endless", house.check(), 1);
@@ -73,7 +65,7 @@ final class CheckTest {
 
     /** The steps end with 300 granted, the code does not come so far: it says less. */
     private static void codeCutOff() {
-        RegisterHouse house = house(3);
+        RegisterHouse house = Houses.of("000");
         counting(house, 99);
         DUE.is("299 steps", house.run(0, 299), 0);
         DUE.is("299 steps in slots", house.check(), 0);
@@ -84,7 +76,7 @@ final class CheckTest {
 
     /** Nothing is said, but the code is cut off before it has left anything, in cell 0 alone. */
     private static void codeCutOffBeforeMemory() {
-        RegisterHouse house = house(3);
+        RegisterHouse house = Houses.of("000");
         house.value(1);
         house.put(0, 1, 1, 0);
         house.put(0, 2, 99, 0);
@@ -98,7 +90,7 @@ final class CheckTest {
 
     /** The code is cut off, but has said and left all by then. */
     private static void codeCutOffForNothing() {
-        RegisterHouse house = house(3);
+        RegisterHouse house = Houses.of("000");
         house.put(0, 1, 1, 0);
         house.put(0, 2, 99, 0);
         house.put(2, 0, 0, 1);

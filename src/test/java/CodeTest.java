@@ -20,18 +20,8 @@ final class CodeTest {
         DUE.end();
     }
 
-    private static RegisterHouse house(String classes, int registers0, int registers1) {
-        RegisterHouse house = new RegisterHouse();
-        for (int v = 0; v < classes.length(); v++) {
-            house.value(classes.charAt(v) - '0');
-        }
-        house.registers(0, registers0);
-        house.registers(1, registers1);
-        return house;
-    }
-
     private static void counts() {
-        RegisterHouse house = house("001", 0, 0);
+        RegisterHouse house = Houses.of("001", 0, 0);
         house.put(1, 1, 1, 0);
         house.put(9, 0, 0, 0);
         house.put(9, 0, 0, 0);
@@ -48,7 +38,7 @@ final class CodeTest {
     }
 
     private static void wrongItems() {
-        RegisterHouse house = house("0", 1, 0);
+        RegisterHouse house = Houses.of("0", 1, 0);
         house.put(9, 0, 0, 0);
         house.put(9, 0, 0, 0);
         for (int wrong : new int[] {Integer.MIN_VALUE, -1, 4, Integer.MAX_VALUE}) {
@@ -69,7 +59,7 @@ final class CodeTest {
      * lighter each than the one before that one step more does not change their order.
      */
     private static RegisterHouse apart(int registers0, int registers1) {
-        RegisterHouse house = house("00011", registers0, registers1);
+        RegisterHouse house = Houses.of("00011", registers0, registers1);
         for (int v = 0; v < 5; v++) {
             house.put(0, v, 0, 0);
         }
@@ -146,7 +136,7 @@ final class CodeTest {
 
     /** Two values that are never made share a slot: two values all the same. */
     private static void oneSlotTwoValues() {
-        RegisterHouse house = house("000", 0, 0);
+        RegisterHouse house = Houses.of("000", 0, 0);
         house.put(2, 2, 0, 1);
         DUE.items("one slot", house, 1, new int[][] {{11, 8, 0, 0}, {11, 9, 0, 0}, {2, 8, 8, 9}, {12, 8, 0, 0}});
     }
@@ -163,7 +153,7 @@ final class CodeTest {
     }
 
     private static void movesOfOneHome() {
-        RegisterHouse house = house("0011", 1, 0);
+        RegisterHouse house = Houses.of("0011", 1, 0);
         house.put(1, 0, 1, 0);
         house.put(1, 0, 0, 0);
         house.put(1, 2, 3, 0);
@@ -176,7 +166,7 @@ final class CodeTest {
     }
 
     private static void leads() {
-        RegisterHouse house = house("0", 0, 0);
+        RegisterHouse house = Houses.of("0", 0, 0);
         house.put(8, 3, 0, 0);
         house.put(9, 0, 0, 0);
         house.put(7, 0, 0, 1);
@@ -188,7 +178,7 @@ final class CodeTest {
     }
 
     private static void leadsToNoItems() {
-        RegisterHouse house = house("0", 1, 0);
+        RegisterHouse house = Houses.of("0", 1, 0);
         house.put(8, 1, 0, 0);
         house.put(1, 0, 0, 0);
         house.put(1, 0, 0, 0);
@@ -200,7 +190,7 @@ final class CodeTest {
 
     /** What is asked for first does not matter. */
     private static void askedInOrder() {
-        RegisterHouse house = house("0", 0, 0);
+        RegisterHouse house = Houses.of("0", 0, 0);
         house.put(0, 0, 4, 0);
         house.put(9, 0, 0, 0);
         DUE.is("live", house.live(1), 1);
@@ -216,7 +206,7 @@ final class CodeTest {
     }
 
     private static void mostItems() {
-        RegisterHouse house = house("000", 0, 0);
+        RegisterHouse house = Houses.of("000", 0, 0);
         for (int step = 0; step < 60; step++) {
             house.put(2, 0, 1, 2);
         }

@@ -18,15 +18,6 @@ final class FlowTest {
         DUE.end();
     }
 
-    /** Values of the classes that the text tells. */
-    private static RegisterHouse house(String classes) {
-        RegisterHouse house = new RegisterHouse();
-        for (int v = 0; v < classes.length(); v++) {
-            house.value(classes.charAt(v) - '0');
-        }
-        return house;
-    }
-
     private static void lives(String what, RegisterHouse house, int... due) {
         for (int step = 0; step < due.length; step++) {
             DUE.is(what + ": live(" + step + ")", house.live(step), due[step]);
@@ -44,7 +35,7 @@ final class FlowTest {
     private static void liveByOp() {
         int[] due = {0, 0b010, 0b110, 0b110, 0b110, 0b1000, 0b1001, 0b011, 0, 0b001, 0};
         for (int op = 0; op <= 10; op++) {
-            RegisterHouse house = house("0001");
+            RegisterHouse house = Houses.of("0001");
             boolean place = op == 5 || op == 6;
             house.put(op, 0, place ? 3 : 1, 2);
             lives("op " + op, house, due[op]);
@@ -52,7 +43,7 @@ final class FlowTest {
     }
 
     private static void liveAlongLine() {
-        RegisterHouse house = house("000");
+        RegisterHouse house = Houses.of("000");
         house.put(0, 0, 5, 0);
         house.put(2, 0, 0, 1);
         house.put(3, 2, 0, 0);
@@ -62,7 +53,7 @@ final class FlowTest {
     }
 
     private static void liveRoundLoop() {
-        RegisterHouse house = house("000");
+        RegisterHouse house = Houses.of("000");
         house.put(0, 0, 3, 0);
         house.put(9, 2, 0, 0);
         house.put(0, 2, 7, 0);
@@ -70,7 +61,7 @@ final class FlowTest {
         house.put(10, 0, 0, 0);
         lives("loop", house, 0b110, 0b111, 0b011, 0b111, 0);
         // through many loops, each inside the next
-        house = house("00");
+        house = Houses.of("00");
         for (int step = 0; step < 58; step++) {
             house.put(7, 0, 0, 57 - step);
         }
@@ -84,7 +75,7 @@ final class FlowTest {
     }
 
     private static void liveOverBranches() {
-        RegisterHouse house = house("0000");
+        RegisterHouse house = Houses.of("0000");
         house.put(7, 0, 0, 3);
         house.put(9, 1, 0, 0);
         house.put(8, 4, 0, 0);
@@ -95,7 +86,7 @@ final class FlowTest {
 
     /** Steps to come next that there are not lead to the end, until they are put. */
     private static void liveWhereNoneComes() {
-        RegisterHouse house = house("00");
+        RegisterHouse house = Houses.of("00");
         house.put(7, 0, 0, 60);
         house.put(7, 0, 0, 2);
         lives("7 to none", house, 1, 1);
@@ -126,7 +117,7 @@ final class FlowTest {
     }
 
     private static void liveBeforeUnreached() {
-        RegisterHouse house = house("000");
+        RegisterHouse house = Houses.of("000");
         house.put(10, 0, 0, 0);
         house.put(0, 0, 1, 0);
         house.put(2, 2, 0, 1);
@@ -136,7 +127,7 @@ final class FlowTest {
     }
 
     private static void wrongNumbers() {
-        RegisterHouse house = house("00");
+        RegisterHouse house = Houses.of("00");
         house.put(9, 1, 0, 0);
         for (int wrong : new int[] {Integer.MIN_VALUE, -1, 2, 24, 60, Integer.MAX_VALUE}) {
             DUE.is("live(" + wrong + ")", house.live(wrong), NONE);
@@ -147,7 +138,7 @@ final class FlowTest {
     }
 
     private static void inWayByMaking() {
-        RegisterHouse house = house("0000");
+        RegisterHouse house = Houses.of("0000");
         // 0 becomes anew for nothing, yet while 1 is live behind it
         house.put(0, 0, 5, 0);
         house.put(9, 1, 0, 0);
@@ -156,14 +147,14 @@ final class FlowTest {
         house.put(9, 3, 0, 0);
         ways("making", house, 0b0110, 0b0001, 0b0001, 0);
         // values that are live together, but neither becomes anew
-        house = house("00");
+        house = Houses.of("00");
         house.put(9, 0, 0, 0);
         house.put(9, 1, 0, 0);
         ways("only taken", house, 0, 0);
     }
 
     private static void inWayByMove() {
-        RegisterHouse house = house("000");
+        RegisterHouse house = Houses.of("000");
         house.put(0, 0, 5, 0);
         house.put(1, 1, 0, 0);
         house.put(9, 0, 0, 0);
@@ -185,7 +176,7 @@ final class FlowTest {
     }
 
     private static void inWayOfClass() {
-        RegisterHouse house = house("0101");
+        RegisterHouse house = Houses.of("0101");
         for (int v = 0; v < 4; v++) {
             house.put(0, v, v, 0);
         }
@@ -193,7 +184,7 @@ final class FlowTest {
             house.put(9, v, 0, 0);
         }
         ways("classes", house, 0b0100, 0b1000, 0b0001, 0b0010);
-        house = house("000000000000000000000000");
+        house = Houses.of("000000000000000000000000");
         for (int v = 0; v < 24; v++) {
             house.put(0, v, v, 0);
         }
@@ -210,13 +201,13 @@ final class FlowTest {
         int[][] due = {{1, 0, 0, 0}, {1, 1, 0, 0}, {1, 1, 1, 0}, {1, 1, 1, 0}, {1, 1, 1, 0}, {1, 0, 0, 1},
             {1, 0, 0, 1}, {1, 1, 0, 0}, {0, 0, 0, 0}, {1, 0, 0, 0}, {0, 0, 0, 0}};
         for (int op = 0; op <= 10; op++) {
-            RegisterHouse house = house("0001");
+            RegisterHouse house = Houses.of("0001");
             house.put(op, 0, op == 5 || op == 6 ? 3 : 1, 2);
             for (int v = 0; v < 4; v++) {
                 DUE.is("op " + op + ": weight(" + v + ")", house.weight(v), due[op][v]);
             }
         }
-        RegisterHouse house = house("01");
+        RegisterHouse house = Houses.of("01");
         house.put(2, 0, 0, 0);
         house.put(6, 1, 1, 1);
         house.put(7, 0, 0, 0);

@@ -18,16 +18,6 @@ final class HomesTest {
         DUE.end();
     }
 
-    private static RegisterHouse house(String classes, int registers0, int registers1) {
-        RegisterHouse house = new RegisterHouse();
-        for (int v = 0; v < classes.length(); v++) {
-            house.value(classes.charAt(v) - '0');
-        }
-        house.registers(0, registers0);
-        house.registers(1, registers1);
-        return house;
-    }
-
     /** Makes all of these values, then takes all: each is in the way of each. */
     private static void crowd(RegisterHouse house, int... values) {
         for (int v : values) {
@@ -64,7 +54,7 @@ final class HomesTest {
     }
 
     private static void wrongNumbers() {
-        RegisterHouse house = house("01", 1, 1);
+        RegisterHouse house = Houses.of("01", 1, 1);
         for (int wrong : new int[] {Integer.MIN_VALUE, -1, 2, 24, Integer.MAX_VALUE}) {
             DUE.is("home(" + wrong + ")", house.home(wrong), NONE);
             DUE.is("order(" + wrong + ")", house.order(wrong), NONE);
@@ -72,7 +62,7 @@ final class HomesTest {
     }
 
     private static void orders() {
-        RegisterHouse house = house("01010", 0, 0);
+        RegisterHouse house = Houses.of("01010", 0, 0);
         order("no steps", house, 0, 1, 2, 3, 4);
         heavier(house, 3, 2);
         heavier(house, 1, 2);
@@ -94,7 +84,7 @@ final class HomesTest {
     }
 
     private static void leastFree() {
-        RegisterHouse house = house("0000", 3, 0);
+        RegisterHouse house = Houses.of("0000", 3, 0);
         homes("none in the way", house, 0, 0, 0, 0);
         crowd(house, 0, 1, 2, 3);
         homes("all in the way", house, 0, 1, 2, 100);
@@ -107,7 +97,7 @@ final class HomesTest {
 
     /** 0 and 1 crowd registers 0 and 1; 2 is in nobody's way. */
     private static RegisterHouse twoAndOne(String classes, int registers) {
-        RegisterHouse house = house(classes, registers, registers);
+        RegisterHouse house = Houses.of(classes, registers, registers);
         crowd(house, 0, 1);
         heavier(house, 0, 5);
         heavier(house, 1, 2);
@@ -134,7 +124,7 @@ final class HomesTest {
     }
 
     private static void joinedOfOtherClass() {
-        RegisterHouse house = house("0011", 3, 3);
+        RegisterHouse house = Houses.of("0011", 3, 3);
         crowd(house, 0, 1);
         heavier(house, 0, 9);
         heavier(house, 1, 3);
@@ -143,7 +133,7 @@ final class HomesTest {
     }
 
     private static void joinedInTheWay() {
-        RegisterHouse house = house("00", 3, 0);
+        RegisterHouse house = Houses.of("00", 3, 0);
         house.put(1, 1, 0, 0);
         house.put(0, 1, 7, 0);
         house.put(9, 0, 0, 0);
@@ -152,7 +142,7 @@ final class HomesTest {
     }
 
     private static void leastJoined() {
-        RegisterHouse house = house("0000", 4, 0);
+        RegisterHouse house = Houses.of("0000", 4, 0);
         crowd(house, 0, 1, 2);
         heavier(house, 0, 9);
         heavier(house, 1, 8);
@@ -167,7 +157,7 @@ final class HomesTest {
 
     /** A slot that a joined value has does not draw: only registers do. */
     private static void joinedSlots() {
-        RegisterHouse house = house("0000", 0, 0);
+        RegisterHouse house = Houses.of("0000", 0, 0);
         crowd(house, 0, 1, 2);
         heavier(house, 0, 9);
         heavier(house, 1, 8);
@@ -178,7 +168,7 @@ final class HomesTest {
     }
 
     private static void slots() {
-        RegisterHouse house = house("0000", 1, 0);
+        RegisterHouse house = Houses.of("0000", 1, 0);
         slotCounts("a register for all", house, 0, 0);
         crowd(house, 0, 1, 2);
         homes("slots", house, 0, 100, 101, 0);
@@ -186,7 +176,7 @@ final class HomesTest {
         house.registers(0, 0);
         homes("slots only", house, 100, 101, 102, 100);
         slotCounts("slots only", house, 3, 0);
-        house = house("000000000000000000000000", 8, 0);
+        house = Houses.of("000000000000000000000000", 8, 0);
         int[] all = new int[24];
         int[] due = new int[24];
         for (int v = 0; v < 24; v++) {
@@ -199,7 +189,7 @@ final class HomesTest {
     }
 
     private static void slotsOfClasses() {
-        RegisterHouse house = house("0101", 0, 0);
+        RegisterHouse house = Houses.of("0101", 0, 0);
         slotCounts("one for both, of each class", house, 1, 1);
         crowd(house, 0, 1, 2, 3);
         homes("of each class", house, 100, 100, 101, 101);
@@ -211,7 +201,7 @@ final class HomesTest {
 
     /** Answers follow what is told later. */
     private static void changes() {
-        RegisterHouse house = house("00", 1, 0);
+        RegisterHouse house = Houses.of("00", 1, 0);
         homes("first", house, 0, 0);
         crowd(house, 0, 1);
         homes("behind put", house, 0, 100);

@@ -21,14 +21,6 @@ final class RunTest {
         DUE.end();
     }
 
-    private static RegisterHouse house(String classes) {
-        RegisterHouse house = new RegisterHouse();
-        for (int v = 0; v < classes.length(); v++) {
-            house.value(classes.charAt(v) - '0');
-        }
-        return house;
-    }
-
     private static void latest(String what, RegisterHouse house, int made, int... said) {
         DUE.is(what + ": made(0)", house.made(0), made);
         DUE.is(what + ": made(1)", house.made(1), said.length);
@@ -52,7 +44,7 @@ final class RunTest {
     }
 
     private static void noRun() {
-        RegisterHouse house = house("0");
+        RegisterHouse house = Houses.of("0");
         house.put(9, 0, 0, 0);
         house.memory(0, 7);
         latest("no run", house, 0);
@@ -66,7 +58,7 @@ final class RunTest {
     }
 
     private static void refused() {
-        RegisterHouse house = house("0");
+        RegisterHouse house = Houses.of("0");
         house.put(0, 0, 8, 0);
         house.put(9, 0, 0, 0);
         house.memory(5, 6);
@@ -91,7 +83,7 @@ final class RunTest {
     }
 
     private static void grants() {
-        RegisterHouse house = house("0");
+        RegisterHouse house = Houses.of("0");
         house.put(0, 0, 8, 0);
         house.put(9, 0, 0, 0);
         DUE.is("none granted", house.run(0, 0), 1);
@@ -116,7 +108,7 @@ final class RunTest {
     }
 
     private static void grantsOfCode() {
-        RegisterHouse house = house("0");
+        RegisterHouse house = Houses.of("0");
         house.put(0, 0, 8, 0);
         house.put(9, 0, 0, 0);
         house.put(8, 60, 0, 0);
@@ -131,7 +123,7 @@ final class RunTest {
     }
 
     private static void endless() {
-        RegisterHouse house = house("0");
+        RegisterHouse house = Houses.of("0");
         house.put(8, 0, 0, 0);
         for (int which = 0; which < 3; which++) {
             for (int granted : new int[] {0, 1, 77, 2000}) {
@@ -142,7 +134,7 @@ final class RunTest {
     }
 
     private static void numbers() {
-        RegisterHouse house = house("0001");
+        RegisterHouse house = Houses.of("0001");
         house.put(0, 0, Integer.MAX_VALUE, 0);
         house.put(0, 1, 1, 0);
         house.put(2, 2, 0, 1);
@@ -162,7 +154,7 @@ final class RunTest {
     }
 
     private static void places() {
-        RegisterHouse house = house("011");
+        RegisterHouse house = Houses.of("011");
         house.memory(63, 630);
         house.memory(0, 10);
         house.memory(62, 620);
@@ -195,7 +187,7 @@ final class RunTest {
         int[][] pairs = {{1, 2}, {2, 2}, {3, 2}, {-1, 0}, {Integer.MIN_VALUE, Integer.MAX_VALUE},
             {Integer.MAX_VALUE, Integer.MIN_VALUE}};
         for (int[] pair : pairs) {
-            RegisterHouse house = house("01");
+            RegisterHouse house = Houses.of("01");
             house.put(0, 0, pair[0], 0);
             house.put(0, 1, pair[1], 0);
             house.put(7, 0, 1, 4);
@@ -210,7 +202,7 @@ final class RunTest {
     }
 
     private static void whereNoneComes() {
-        RegisterHouse house = house("00");
+        RegisterHouse house = Houses.of("00");
         house.put(0, 1, 1, 0);
         house.put(7, 0, 1, 60);
         house.put(9, 1, 0, 0);
@@ -225,7 +217,7 @@ final class RunTest {
     }
 
     private static void saidBehindFifty() {
-        RegisterHouse house = house("000");
+        RegisterHouse house = Houses.of("000");
         house.put(0, 1, 1, 0);
         house.put(0, 2, 60, 0);
         house.put(2, 0, 0, 1);
@@ -245,7 +237,7 @@ final class RunTest {
 
     /** Values, registers and slots are 0 when a run begins, memory is as it was told. */
     private static void anewEachTime() {
-        RegisterHouse house = house("01");
+        RegisterHouse house = Houses.of("01");
         house.put(9, 0, 0, 0);
         house.put(9, 1, 0, 0);
         house.put(5, 0, 1, 3);
@@ -262,7 +254,7 @@ final class RunTest {
     }
 
     private static void slotsOfTwoClasses() {
-        RegisterHouse house = house("0101");
+        RegisterHouse house = Houses.of("0101");
         for (int v = 0; v < 4; v++) {
             house.put(0, v, 10 + v, 0);
         }
@@ -277,7 +269,7 @@ final class RunTest {
     }
 
     private static void latestStays() {
-        RegisterHouse house = house("0");
+        RegisterHouse house = Houses.of("0");
         house.put(9, 0, 0, 0);
         house.memory(1, 2);
         house.run(1, 20);

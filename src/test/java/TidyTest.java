@@ -18,16 +18,6 @@ final class TidyTest {
         DUE.end();
     }
 
-    private static RegisterHouse house(String classes, int registers0, int registers1) {
-        RegisterHouse house = new RegisterHouse();
-        for (int v = 0; v < classes.length(); v++) {
-            house.value(classes.charAt(v) - '0');
-        }
-        house.registers(0, registers0);
-        house.registers(1, registers1);
-        return house;
-    }
-
     private static void tidied(String what, RegisterHouse house, int[]... due) {
         DUE.items(what, house, 2, due);
     }
@@ -37,7 +27,7 @@ final class TidyTest {
     }
 
     private static void fetchBehindKeep() {
-        RegisterHouse house = house("01", 0, 0);
+        RegisterHouse house = Houses.of("01", 0, 0);
         house.put(0, 0, 5, 0);
         house.put(9, 0, 0, 0);
         house.put(0, 1, 6, 0);
@@ -47,7 +37,7 @@ final class TidyTest {
     }
 
     private static void fetchThatIsLedTo() {
-        RegisterHouse house = house("0", 0, 0);
+        RegisterHouse house = Houses.of("0", 0, 0);
         house.put(0, 0, 5, 0);
         house.put(9, 0, 0, 0);
         house.put(8, 1, 0, 0);
@@ -60,7 +50,7 @@ final class TidyTest {
 
     /** Another slot, or the same slot number of the other class. */
     private static void fetchOfAnother() {
-        RegisterHouse house = house("001", 0, 0);
+        RegisterHouse house = Houses.of("001", 0, 0);
         house.put(0, 0, 5, 0);
         house.put(0, 1, 6, 0);
         house.put(2, 2, 0, 1);
@@ -72,7 +62,7 @@ final class TidyTest {
     }
 
     private static void fetchNotRightBehind() {
-        RegisterHouse house = house("00", 1, 0);
+        RegisterHouse house = Houses.of("00", 1, 0);
         house.put(0, 1, 5, 0);
         house.put(0, 0, 6, 0);
         house.put(9, 1, 0, 0);
@@ -83,7 +73,7 @@ final class TidyTest {
     }
 
     private static void goToNext() {
-        RegisterHouse house = house("0", 1, 0);
+        RegisterHouse house = Houses.of("0", 1, 0);
         house.put(9, 0, 0, 0);
         house.put(8, 2, 0, 0);
         house.put(9, 0, 0, 0);
@@ -99,7 +89,7 @@ final class TidyTest {
 
     /** What is next to the last item is the end. */
     private static void goToEnd() {
-        RegisterHouse house = house("0", 1, 0);
+        RegisterHouse house = Houses.of("0", 1, 0);
         house.put(9, 0, 0, 0);
         house.put(8, 60, 0, 0);
         tidied("to the end", house, row(9, 0, 0, 0));
@@ -111,7 +101,7 @@ final class TidyTest {
     }
 
     private static void behindGoAndEnd() {
-        RegisterHouse house = house("0", 1, 0);
+        RegisterHouse house = Houses.of("0", 1, 0);
         house.put(7, 0, 0, 4);
         house.put(10, 0, 0, 0);
         house.put(9, 0, 0, 0);
@@ -129,7 +119,7 @@ final class TidyTest {
     }
 
     private static void goToItself() {
-        RegisterHouse house = house("0", 1, 0);
+        RegisterHouse house = Houses.of("0", 1, 0);
         house.put(10, 0, 0, 0);
         house.put(8, 1, 0, 0);
         tidied("8 to itself", house, row(10, 0, 0, 0), row(8, 1, 0, 0));
@@ -142,7 +132,7 @@ final class TidyTest {
     }
 
     private static void oneMakesAnother() {
-        RegisterHouse house = house("0", 1, 0);
+        RegisterHouse house = Houses.of("0", 1, 0);
         house.put(8, 2, 0, 0);
         house.put(9, 0, 0, 0);
         house.put(9, 0, 0, 0);
@@ -157,7 +147,7 @@ final class TidyTest {
 
     /** KEEP and FETCH come together when the op 8 between them goes. */
     private static void fetchBehindGoneItem() {
-        RegisterHouse house = house("0", 0, 0);
+        RegisterHouse house = Houses.of("0", 0, 0);
         house.put(0, 0, 5, 0);
         house.put(8, 2, 0, 0);
         house.put(9, 0, 0, 0);
@@ -168,7 +158,7 @@ final class TidyTest {
     }
 
     private static void leadsMove() {
-        RegisterHouse house = house("0", 1, 0);
+        RegisterHouse house = Houses.of("0", 1, 0);
         house.put(7, 0, 0, 6);
         house.put(8, 2, 0, 0);
         house.put(7, 0, 0, 1);
@@ -183,7 +173,7 @@ final class TidyTest {
     }
 
     private static void codeStays() {
-        RegisterHouse house = house("0", 1, 0);
+        RegisterHouse house = Houses.of("0", 1, 0);
         house.put(8, 1, 0, 0);
         house.put(9, 0, 0, 0);
         tidied("tidied", house, row(9, 0, 0, 0));

@@ -54,12 +54,7 @@ final class ToldTest {
 
     /** Values 0 and 1 are of class 0, 2 and 3 of class 1. */
     private static RegisterHouse fourValues() {
-        RegisterHouse house = new RegisterHouse();
-        house.value(0);
-        house.value(0);
-        house.value(1);
-        house.value(1);
-        return house;
+        return Houses.of("0011");
     }
 
     private static void putIs(RegisterHouse house, int op, int[] abc, boolean fine) {
