@@ -17,26 +17,17 @@ final class CheckTest {
         DUE.is("nothing", house.check(), 1);
         house = Houses.of("000");
         DUE.is("no steps", house.check(), 1);
-        counting(house, 10);
+        Houses.counting(house, 10);
         for (int many = 0; many <= 8; many++) {
             house.registers(0, many);
             DUE.is("registers " + many, house.check(), 1);
         }
     }
 
-    /** Says 1 to the last: three steps a turn, eight items a turn without registers. */
-    private static void counting(RegisterHouse house, int last) {
-        house.put(0, 1, 1, 0);
-        house.put(0, 2, last, 0);
-        house.put(2, 0, 0, 1);
-        house.put(9, 0, 0, 0);
-        house.put(7, 0, 2, 2);
-    }
-
     private static void latestStays() {
         RegisterHouse house = Houses.of("000");
         house.memory(4, 44);
-        counting(house, 7);
+        Houses.counting(house, 7);
         DUE.is("check without a run", house.check(), 1);
         DUE.is("no run: made(0)", house.made(0), 0);
         DUE.is("no run: made(1)", house.made(1), 0);
@@ -58,7 +49,7 @@ final class CheckTest {
         house.put(8, 0, 0, 0);
         DUE.is("endless", house.check(), 1);
         house.clear();
-        counting(house, 100);
+        Houses.counting(house, 100);
         DUE.is("302 steps", house.run(0, 301), 1);
         DUE.is("302 steps: check", house.check(), 1);
     }
@@ -66,12 +57,18 @@ final class CheckTest {
     /** The steps end with 300 granted, the code does not come so far: it says less. */
     private static void codeCutOff() {
         RegisterHouse house = Houses.of("000");
-        counting(house, 99);
+        Houses.counting(house, 99);
         DUE.is("299 steps", house.run(0, 299), 0);
         DUE.is("299 steps in slots", house.check(), 0);
         house.registers(0, 3);
         DUE.is("299 items", house.run(1, 299), 0);
         DUE.is("299 steps in registers", house.check(), 1);
+        house.put(9, 0, 0, 0);
+        DUE.is("300 steps in registers", house.check(), 1);
+        house.registers(0, 0);
+        DUE.is("300 steps in slots", house.check(), 0);
+        house.put(9, 0, 0, 0);
+        DUE.is("301 steps in slots, which do not end with 300 granted", house.check(), 1);
     }
 
     /** Nothing is said, but the code is cut off before it has left anything, in cell 0 alone. */

@@ -18,16 +18,6 @@ final class HomesTest {
         DUE.end();
     }
 
-    /** Makes all of these values, then takes all: each is in the way of each. */
-    private static void crowd(RegisterHouse house, int... values) {
-        for (int v : values) {
-            house.put(0, v, v, 0);
-        }
-        for (int v : values) {
-            house.put(9, v, 0, 0);
-        }
-    }
-
     private static void heavier(RegisterHouse house, int value, int more) {
         for (int k = 0; k < more; k++) {
             house.put(9, value, 0, 0);
@@ -86,7 +76,7 @@ final class HomesTest {
     private static void leastFree() {
         RegisterHouse house = Houses.of("0000", 3, 0);
         homes("none in the way", house, 0, 0, 0, 0);
-        crowd(house, 0, 1, 2, 3);
+        Houses.crowd(house, 0, 1, 2, 3);
         homes("all in the way", house, 0, 1, 2, 100);
         heavier(house, 3, 2);
         heavier(house, 1, 1);
@@ -98,7 +88,7 @@ final class HomesTest {
     /** 0 and 1 crowd registers 0 and 1; 2 is in nobody's way. */
     private static RegisterHouse twoAndOne(String classes, int registers) {
         RegisterHouse house = Houses.of(classes, registers, registers);
-        crowd(house, 0, 1);
+        Houses.crowd(house, 0, 1);
         heavier(house, 0, 5);
         heavier(house, 1, 2);
         return house;
@@ -119,13 +109,13 @@ final class HomesTest {
         house.put(9, 1, 0, 0);
         homes("1 becomes 2", house, 0, 1, 1);
         house.clear();
-        crowd(house, 0, 1);
+        Houses.crowd(house, 0, 1);
         homes("joined no more", house, 0, 1, 0);
     }
 
     private static void joinedOfOtherClass() {
         RegisterHouse house = Houses.of("0011", 3, 3);
-        crowd(house, 0, 1);
+        Houses.crowd(house, 0, 1);
         heavier(house, 0, 9);
         heavier(house, 1, 3);
         house.put(1, 2, 1, 0);
@@ -143,7 +133,7 @@ final class HomesTest {
 
     private static void leastJoined() {
         RegisterHouse house = Houses.of("0000", 4, 0);
-        crowd(house, 0, 1, 2);
+        Houses.crowd(house, 0, 1, 2);
         heavier(house, 0, 9);
         heavier(house, 1, 8);
         heavier(house, 2, 7);
@@ -158,7 +148,7 @@ final class HomesTest {
     /** A slot that a joined value has does not draw: only registers do. */
     private static void joinedSlots() {
         RegisterHouse house = Houses.of("0000", 0, 0);
-        crowd(house, 0, 1, 2);
+        Houses.crowd(house, 0, 1, 2);
         heavier(house, 0, 9);
         heavier(house, 1, 8);
         house.put(1, 3, 1, 0);
@@ -170,20 +160,18 @@ final class HomesTest {
     private static void slots() {
         RegisterHouse house = Houses.of("0000", 1, 0);
         slotCounts("a register for all", house, 0, 0);
-        crowd(house, 0, 1, 2);
+        Houses.crowd(house, 0, 1, 2);
         homes("slots", house, 0, 100, 101, 0);
         slotCounts("slots", house, 2, 0);
         house.registers(0, 0);
         homes("slots only", house, 100, 101, 102, 100);
         slotCounts("slots only", house, 3, 0);
         house = Houses.of("000000000000000000000000", 8, 0);
-        int[] all = new int[24];
         int[] due = new int[24];
         for (int v = 0; v < 24; v++) {
-            all[v] = v;
             due[v] = v < 8 ? v : 100 + v - 8;
         }
-        crowd(house, all);
+        Houses.crowd(house, Houses.upTo(24));
         homes("24 in the way", house, due);
         slotCounts("24 in the way", house, 16, 0);
     }
@@ -191,7 +179,7 @@ final class HomesTest {
     private static void slotsOfClasses() {
         RegisterHouse house = Houses.of("0101", 0, 0);
         slotCounts("one for both, of each class", house, 1, 1);
-        crowd(house, 0, 1, 2, 3);
+        Houses.crowd(house, 0, 1, 2, 3);
         homes("of each class", house, 100, 100, 101, 101);
         slotCounts("of each class", house, 2, 2);
         house.registers(1, 1);
@@ -203,7 +191,7 @@ final class HomesTest {
     private static void changes() {
         RegisterHouse house = Houses.of("00", 1, 0);
         homes("first", house, 0, 0);
-        crowd(house, 0, 1);
+        Houses.crowd(house, 0, 1);
         homes("behind put", house, 0, 100);
         DUE.is("value", house.value(1), 2);
         homes("behind value", house, 0, 100, 100);

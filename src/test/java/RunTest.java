@@ -21,33 +21,11 @@ final class RunTest {
         DUE.end();
     }
 
-    private static void latest(String what, RegisterHouse house, int made, int... said) {
-        DUE.is(what + ": made(0)", house.made(0), made);
-        DUE.is(what + ": made(1)", house.made(1), said.length);
-        for (int k = 0; k < said.length; k++) {
-            DUE.is(what + ": said(" + k + ")", house.said(k), said[k]);
-        }
-        DUE.is(what + ": said behind the last", house.said(said.length), 0);
-        DUE.is(what + ": said before the first", house.said(-1), 0);
-    }
-
-    /** The same is said and ends in all three runs, with any registers. */
-    private static void saysEverywhere(String what, RegisterHouse house, int... said) {
-        for (int many = 0; many <= 8; many++) {
-            house.registers(0, many);
-            house.registers(1, 8 - many);
-            for (int which = 0; which < 3; which++) {
-                DUE.is(what + ": run " + which, house.run(which, 2000), 0);
-                latest(what + " " + which, house, house.made(0), said);
-            }
-        }
-    }
-
     private static void noRun() {
         RegisterHouse house = Houses.of("0");
         house.put(9, 0, 0, 0);
         house.memory(0, 7);
-        latest("no run", house, 0);
+        DUE.latest("no run", house, 0);
         DUE.is("no run: cell(0)", house.cell(0), 0);
         for (int wrong : FAR) {
             DUE.is("no run: made(" + wrong + ")", house.made(wrong), NONE);
@@ -72,7 +50,7 @@ final class RunTest {
                 DUE.is("run(" + which + ", " + wrong + ")", house.run(which, wrong), NONE);
             }
         }
-        latest("refused", house, 2, 8);
+        DUE.latest("refused", house, 2, 8);
         DUE.is("refused: cell(5)", house.cell(5), 6);
         for (int wrong : FAR) {
             DUE.is("made(" + wrong + ")", house.made(wrong), NONE);
@@ -87,23 +65,23 @@ final class RunTest {
         house.put(0, 0, 8, 0);
         house.put(9, 0, 0, 0);
         DUE.is("none granted", house.run(0, 0), 1);
-        latest("none granted", house, 0);
+        DUE.latest("none granted", house, 0);
         DUE.is("one granted", house.run(0, 1), 1);
-        latest("one granted", house, 1);
+        DUE.latest("one granted", house, 1);
         DUE.is("two granted", house.run(0, 2), 0);
-        latest("two granted", house, 2, 8);
+        DUE.latest("two granted", house, 2, 8);
         house.put(10, 0, 0, 0);
         house.put(9, 0, 0, 0);
         DUE.is("10 would come", house.run(0, 2), 1);
-        latest("10 would come", house, 2, 8);
+        DUE.latest("10 would come", house, 2, 8);
         DUE.is("10 counts", house.run(0, 3), 0);
-        latest("10 counts", house, 3, 8);
+        DUE.latest("10 counts", house, 3, 8);
         DUE.is("10 ends", house.run(0, 2000), 0);
-        latest("10 ends", house, 3, 8);
+        DUE.latest("10 ends", house, 3, 8);
         house.clear();
         for (int which = 0; which < 3; which++) {
             DUE.is("no steps", house.run(which, 0), 0);
-            latest("no steps", house, 0);
+            DUE.latest("no steps", house, 0);
         }
     }
 
@@ -113,13 +91,13 @@ final class RunTest {
         house.put(9, 0, 0, 0);
         house.put(8, 60, 0, 0);
         DUE.is("code, 4 granted", house.run(1, 4), 1);
-        latest("code, 4 granted", house, 4, 8);
+        DUE.latest("code, 4 granted", house, 4, 8);
         DUE.is("code, 5 granted", house.run(1, 5), 0);
-        latest("code, 5 granted", house, 5, 8);
+        DUE.latest("code, 5 granted", house, 5, 8);
         DUE.is("tidied, 2 granted", house.run(2, 2), 1);
-        latest("tidied, 2 granted", house, 2);
+        DUE.latest("tidied, 2 granted", house, 2);
         DUE.is("tidied, 3 granted", house.run(2, 3), 0);
-        latest("tidied, 3 granted", house, 3, 8);
+        DUE.latest("tidied, 3 granted", house, 3, 8);
     }
 
     private static void endless() {
@@ -128,7 +106,7 @@ final class RunTest {
         for (int which = 0; which < 3; which++) {
             for (int granted : new int[] {0, 1, 77, 2000}) {
                 DUE.is("endless, " + granted + " granted", house.run(which, granted), 1);
-                latest("endless", house, granted);
+                DUE.latest("endless", house, granted);
             }
         }
     }
@@ -150,7 +128,7 @@ final class RunTest {
         house.put(1, 0, 3, 0);
         house.put(4, 0, 0, 0);
         house.put(9, 0, 0, 0);
-        saysEverywhere("numbers", house, Integer.MIN_VALUE, Integer.MAX_VALUE, 1, -2147483646, 4, 16);
+        DUE.saysInAllRuns("numbers", house, Integer.MIN_VALUE, Integer.MAX_VALUE, 1, -2147483646, 4, 16);
     }
 
     private static void places() {
@@ -172,8 +150,9 @@ final class RunTest {
         house.put(6, 2, 1, 5);
         house.put(0, 1, 64 * 3 + 7, 0);
         house.put(6, 0, 1, 63);
+        DUE.saysInAllRuns("places", house, 630, 10, 620);
         for (int which = 0; which < 3; which++) {
-            saysEverywhere("places", house, 630, 10, 620);
+            house.run(which, 100);
             DUE.is("cell 0", house.cell(0), 620);
             DUE.is("cell 63", house.cell(63), Integer.MAX_VALUE);
             DUE.is("cell 5", house.cell(5), 620);
@@ -194,9 +173,9 @@ final class RunTest {
             house.put(9, 0, 0, 0);
             house.put(9, 1, 0, 0);
             if (pair[0] < pair[1]) {
-                saysEverywhere("less", house, pair[1]);
+                DUE.saysInAllRuns("less", house, pair[1]);
             } else {
-                saysEverywhere("not less", house, pair[0], pair[1]);
+                DUE.saysInAllRuns("not less", house, pair[0], pair[1]);
             }
         }
     }
@@ -206,14 +185,14 @@ final class RunTest {
         house.put(0, 1, 1, 0);
         house.put(7, 0, 1, 60);
         house.put(9, 1, 0, 0);
-        saysEverywhere("7 to none", house);
+        DUE.saysInAllRuns("7 to none", house);
         house.clear();
         house.put(8, 2, 0, 0);
         house.put(9, 1, 0, 0);
-        saysEverywhere("8 to none", house);
+        DUE.saysInAllRuns("8 to none", house);
         house.put(10, 0, 0, 0);
         DUE.is("8 to a step put later", house.run(0, 9), 0);
-        latest("8 to a step put later", house, 2);
+        DUE.latest("8 to a step put later", house, 2);
     }
 
     private static void saidBehindFifty() {
@@ -231,7 +210,7 @@ final class RunTest {
             }
         }
         house.run(0, 4);
-        latest("then one", house, 4, 1);
+        DUE.latest("then one", house, 4, 1);
         DUE.is("then one: said(7)", house.said(7), 0);
     }
 
@@ -247,7 +226,7 @@ final class RunTest {
         house.put(6, 0, 1, 3);
         house.put(0, 1, 9, 0);
         house.memory(3, 4);
-        saysEverywhere("anew", house, 0, 0, 4);
+        DUE.saysInAllRuns("anew", house, 0, 0, 4);
         DUE.is("anew: cell(3)", house.cell(3), 9);
         house.run(0, 0);
         DUE.is("anew: cell(3), none granted", house.cell(3), 4);
@@ -265,7 +244,7 @@ final class RunTest {
         house.put(9, 0, 0, 0);
         house.put(3, 1, 1, 3);
         house.put(9, 1, 0, 0);
-        saysEverywhere("two classes", house, 10, 11, 12, 13, 2, -2);
+        DUE.saysInAllRuns("two classes", house, 10, 11, 12, 13, 2, -2);
     }
 
     private static void latestStays() {
@@ -279,7 +258,7 @@ final class RunTest {
         house.registers(0, 3);
         house.count(3);
         house.clear();
-        latest("stays", house, 2, 0);
+        DUE.latest("stays", house, 2, 0);
         DUE.is("stays: cell(1)", house.cell(1), 2);
     }
 }
