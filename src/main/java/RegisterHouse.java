@@ -227,11 +227,10 @@ public final class RegisterHouse {
         if (homes.clash(program.values, flow.ways)) {
             return 0;
         }
-        if (!stepsTrial.endsWithin(GRANTED_TO_CHECK, program.steps, toldMemory)) {
-            return 1;
-        }
-        codeTrial.endsWithin(GRANTED_TO_CHECK, code, toldMemory);
-        return codeTrial.agreesWith(stepsTrial) ? 1 : 0;
+        // the code may be longer than the steps: one that is cut off is not held against them
+        boolean bothEnd = stepsTrial.endsWithin(GRANTED_TO_CHECK, program.steps, toldMemory)
+            && codeTrial.endsWithin(GRANTED_TO_CHECK, code, toldMemory);
+        return !bothEnd || codeTrial.agreesWith(stepsTrial) ? 1 : 0;
     }
 
     private static boolean isClass(int c) {

@@ -1,14 +1,15 @@
+import java.lang.reflect.Field;
+
 /** Promise 18: check. */
 final class CheckTest {
     private static final Due DUE = new Due("CheckTest");
 
-    public static void main(String[] args) {
+    public static void main(String[] args) throws ReflectiveOperationException {
         fine();
         latestStays();
         endless();
         codeCutOff();
-        codeCutOffBeforeMemory();
-        codeCutOffForNothing();
+        wouldTellZero();
         DUE.end();
     }
 
@@ -54,46 +55,66 @@ final class CheckTest {
         DUE.is("302 steps: check", house.check(), 1);
     }
 
-    /** The steps end with 300 granted, the code does not come so far: it says less. */
+    /** The steps end with 300 granted; the code, which is longer, does not, and has said or left less by then. */
     private static void codeCutOff() {
-        RegisterHouse house = Houses.of("000");
-        Houses.counting(house, 99);
-        DUE.is("299 steps", house.run(0, 299), 0);
-        DUE.is("299 steps in slots", house.check(), 0);
-        house.registers(0, 3);
-        DUE.is("299 items", house.run(1, 299), 0);
-        DUE.is("299 steps in registers", house.check(), 1);
-        house.put(9, 0, 0, 0);
-        DUE.is("300 steps in registers", house.check(), 1);
-        house.registers(0, 0);
-        DUE.is("300 steps in slots", house.check(), 0);
-        house.put(9, 0, 0, 0);
-        DUE.is("301 steps in slots, which do not end with 300 granted", house.check(), 1);
+        for (int turns : new int[] {32, 33, 34, 98}) {
+            RegisterHouse house = Houses.of("0001");
+            Houses.counting(house, turns);
+            house.put(6, 0, 3, 0);
+            DUE.is(turns + " turns: the steps end", house.run(0, 300), 0);
+            DUE.is(turns + " turns: the code ends", house.run(1, 300), turns < 33 ? 0 : 1);
+            DUE.is(turns + " turns in slots", house.check(), 1);
+            house.registers(0, 3);
+            DUE.is(turns + " turns in registers", house.check(), 1);
+        }
     }
 
-    /** Nothing is said, but the code is cut off before it has left anything, in cell 0 alone. */
-    private static void codeCutOffBeforeMemory() {
-        RegisterHouse house = Houses.of("000");
-        house.value(1);
-        house.put(0, 1, 1, 0);
-        house.put(0, 2, 99, 0);
-        house.put(2, 0, 0, 1);
-        house.put(7, 0, 2, 2);
-        house.put(6, 0, 3, 0);
-        DUE.is("left in cell 0", house.check(), 0);
-        house.registers(0, 3);
-        DUE.is("left in cell 0, by registers", house.check(), 1);
+    /**
+     * Says 5, says 6, and leaves 6 in cells 0 and 63: the values for that, 0 in register 1 and 1, the
+     * heavier one, in register 0, are in each other's way.
+     */
+    private static RegisterHouse twoSaid() {
+        RegisterHouse house = Houses.of("00011", 3, 1);
+        house.put(0, 0, 5, 0);
+        house.put(0, 1, 6, 0);
+        house.put(9, 0, 0, 0);
+        house.put(9, 1, 0, 0);
+        house.put(6, 1, 3, 0);
+        house.put(6, 1, 3, 63);
+        house.put(0, 2, 0, 0);
+        DUE.is("as it should be", house.check(), 1);
+        return house;
     }
 
-    /** The code is cut off, but has said and left all by then. */
-    private static void codeCutOffForNothing() {
-        RegisterHouse house = Houses.of("000");
-        house.put(0, 1, 1, 0);
-        house.put(0, 2, 99, 0);
-        house.put(2, 0, 0, 1);
-        house.put(7, 0, 2, 2);
-        DUE.is("200 steps", house.run(0, 200), 0);
-        DUE.is("more items than 300", house.run(1, 300), 1);
-        DUE.is("nothing is said or left", house.check(), 1);
+    /** No call brings about what check looks for, so it is put into the object by hand. */
+    private static void wouldTellZero() throws ReflectiveOperationException {
+        RegisterHouse house = twoSaid();
+        DUE.is("in each other's way", house.inWay(0), 0b010);
+        row(house, "homes", "places")[2] = house.home(0);
+        DUE.is("one home for two not in each other's way", house.check(), 1);
+        row(house, "homes", "places")[0] = house.home(1);
+        DUE.is("one home for two in each other's way", house.check(), 0);
+        tellsZero("the first said is another", 0, "ys", 7);
+        tellsZero("the second said is another", 3, "xs", 1);
+        tellsZero("one less is said", 3, "ops", 1);
+        tellsZero("one more is said", 6, "ops", 9);
+        tellsZero("cell 0 is another", 4, "xs", 1);
+        tellsZero("cell 63 is another", 5, "xs", 1);
+        tellsZero("cell 62 is left in place of 63", 5, "zs", 62);
+    }
+
+    private static void tellsZero(String what, int item, String row, int wrong) throws ReflectiveOperationException {
+        RegisterHouse house = twoSaid();
+        row(house, "code", row)[item] = wrong;
+        DUE.is(what, house.check(), 0);
+    }
+
+    private static int[] row(RegisterHouse house, String part, String row) throws ReflectiveOperationException {
+        Field partField = RegisterHouse.class.getDeclaredField(part);
+        partField.setAccessible(true);
+        Object inside = partField.get(house);
+        Field rowField = inside.getClass().getDeclaredField(row);
+        rowField.setAccessible(true);
+        return (int[]) rowField.get(inside);
     }
 }

@@ -40,7 +40,7 @@ final class Houses {
 
     /**
      * Says 1 to the last with values 0 to 2, of class 0: two steps and three more a turn; with three
-     * registers as many items, without registers eight items a turn.
+     * registers as many items, without registers four items and nine more a turn.
      */
     static void counting(RegisterHouse house, int last) {
         house.put(0, 1, 1, 0);

@@ -353,11 +353,4 @@ final class Model {
             default: break;
         }
     }
-
-    int check() {
-        Outcome steps = run(plainSteps(), 300);
-        Outcome code = run(code(), 300);
-        boolean same = steps.said.equals(code.said) && java.util.Arrays.equals(steps.cells, code.cells);
-        return !steps.ended || same ? 1 : 0;
-    }
 }
