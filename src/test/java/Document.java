@@ -3,15 +3,16 @@ import java.io.UncheckedIOException;
 import java.nio.file.Files;
 import java.nio.file.Path;
 
-/** The document's sections, so that a sentence that a test names is one that stands there. */
+/** A document's sections, so that what a test names is what stands there. */
 final class Document {
-    private static final Path FILE = Path.of("..", "shared", "DOC.md");
+    static final Path PROMISES = Path.of("..", "shared", "DOC.md");
+    static final Path README = Path.of("README.md");
 
     private final String text;
 
-    Document() {
+    Document(Path file) {
         try {
-            text = "\n" + Files.readString(FILE);
+            text = "\n" + Files.readString(file);
         } catch (IOException missing) {
             throw new UncheckedIOException(missing);
         }
@@ -22,7 +23,8 @@ final class Document {
         return plain(bodyOf(section)).contains(plain(words));
     }
 
-    private String bodyOf(String section) {
+    /** A section with its heading; empty when there is none. */
+    String bodyOf(String section) {
         for (String part : text.split("\n## ")) {
             String heading = part.split("\n", 2)[0];
             if (heading.equals(section) || heading.startsWith(section + ":")) {
@@ -30,6 +32,12 @@ final class Document {
             }
         }
         return "";
+    }
+
+    /** The first block of code of a kind, "java" or "text", in a section; empty when there is none. */
+    String block(String section, String kind) {
+        String[] around = bodyOf(section).split("\n```" + kind + "\n", 2);
+        return around.length < 2 ? "" : around[1].split("\n```", 2)[0];
     }
 
     private static String plain(String words) {

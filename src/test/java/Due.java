@@ -15,7 +15,7 @@ final class Due {
     void edge(String section, String words) {
         closeEdge();
         if (document == null) {
-            document = new Document();
+            document = new Document(Document.PROMISES);
         }
         edge = section + ", \"" + words + "\": ";
         rowsBeforeEdge = rows;
